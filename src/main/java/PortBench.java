@@ -136,7 +136,7 @@ public final class PortBench {
         if (!now.hasBox(b) || !isBelow(what, TESTS)) {
             return noted(BAD);
         }
-        return passes(now.boxes[b], what) ? 1 : 0;
+        return passed(now.boxes[b], what);
     }
 
     public int like(int b) {
@@ -200,7 +200,7 @@ public final class PortBench {
         for (int what = 0; what < COUNTS; what++) {
             h = 31 * h + count(what);
         }
-        for (int b = 0; b < now.boxCount; b++) {
+        for (int b = 0; b < BOX_LIMIT && b < now.boxCount; b++) {
             h = boxDigest(h, b);
         }
         for (int k = 0; k < ERRORS; k++) {
@@ -240,7 +240,7 @@ public final class PortBench {
         return answer;
     }
 
-    /** The draft becomes what is, and what was becomes a STATE; the State object that falls out is the next draft. */
+    /** The draft becomes what is, what was becomes a STATE; the object that falls out is the next draft. */
     private void keepDraft() {
         State spare;
         if (pastCount < STATE_LIMIT) {
@@ -270,15 +270,16 @@ public final class PortBench {
     }
 
     private long boxDigest(long start, int b) {
+        Four box = now.boxes[b];
         long h = start;
         for (int k = 0; k < FOUR; k++) {
-            h = 31 * h + of(b, k);
+            h = 31 * h + box.at(k);
         }
-        h = 31 * h + det(b);
+        h = 31 * h + box.determinant();
         for (int what = 0; what < TESTS; what++) {
-            h = 31 * h + test(b, what);
+            h = 31 * h + passed(box, what);
         }
-        return 31 * h + like(b);
+        return 31 * h + now.leastAlike(b);
     }
 
     // ---- what is asked of one box
@@ -298,12 +299,12 @@ public final class PortBench {
         return Num.plus(near, Num.over(through, divisor));
     }
 
-    private static boolean passes(Four s, int what) {
+    private static int passed(Four s, int what) {
         switch (what) {
-            case 0: return s.n12 == s.n21;
-            case 1: return s.n11 == s.n22;
-            case 2: return s.n11 == ZERO && s.n22 == ZERO;
-            default: return losesNothing(s);
+            case 0: return s.n12 == s.n21 ? 1 : 0;
+            case 1: return s.n11 == s.n22 ? 1 : 0;
+            case 2: return s.n11 == ZERO && s.n22 == ZERO ? 1 : 0;
+            default: return losesNothing(s) ? 1 : 0;
         }
     }
 
@@ -324,7 +325,9 @@ public final class PortBench {
         }
 
         static int made(int x, int y) {
-            return PRIME * Math.floorMod(x, PRIME) + Math.floorMod(y, PRIME);
+            int left = x % PRIME;
+            int right = y % PRIME;
+            return PRIME * (left < 0 ? left + PRIME : left) + (right < 0 ? right + PRIME : right);
         }
 
         static int plus(int a, int b) {
@@ -354,22 +357,28 @@ public final class PortBench {
 
         /** w / z; whoever calls has seen that z is not 0. */
         static int over(int w, int z) {
-            return times(w, inverted(z));
-        }
-
-        // x * x + y * y is 0 for z = 0 alone, since 10007 leaves 3 by 4.
-        private static int inverted(int z) {
             int x = z / PRIME;
             int y = z % PRIME;
-            int square = (x * x + y * y) % PRIME;
-            int part = 1;
+            // x * x + y * y is 0 for z = 0 alone, since 10007 leaves 3 by 4.
+            int part = inverted((x * x + y * y) % PRIME);
+            int u = x * part % PRIME;
+            int v = y * part % PRIME;
+            int p = w / PRIME;
+            int q = w % PRIME;
+            return made(p * u + q * v, q * u - p * v);
+        }
+
+        /** The inverse of one part, as its power 10005. */
+        private static int inverted(int part) {
+            int square = part;
+            int inverse = 1;
             for (int left = PRIME - 2; left > 0; left = left / 2) {
                 if (left % 2 == 1) {
-                    part = part * square % PRIME;
+                    inverse = inverse * square % PRIME;
                 }
                 square = square * square % PRIME;
             }
-            return made(x * part, -(y * part));
+            return inverse;
         }
     }
 
@@ -674,8 +683,10 @@ public final class PortBench {
         /** Fills toldRow with what THE BENCH TELLS of BOX s; false: nothing is TOLD. */
         private boolean tells(int[] e, Four s) {
             int whole = s.determinant();
-            int d = mismatch(e[1], s.n11, e[4], s.n22, whole);
-            int f = mismatch(e[10], s.n11, e[7], s.n22, whole);
+            int less1 = Num.minus(Num.minus(ONE, Num.times(e[1], s.n11)), Num.times(e[4], s.n22));
+            int less2 = Num.minus(Num.minus(ONE, Num.times(e[10], s.n11)), Num.times(e[7], s.n22));
+            int d = Num.plus(less1, Num.times(Num.times(e[1], e[4]), whole));
+            int f = Num.plus(less2, Num.times(Num.times(e[10], e[7]), whole));
             if (d == ZERO || f == ZERO) {
                 return false;
             }
@@ -686,12 +697,6 @@ public final class PortBench {
                 Num.plus(e[3], Num.over(Num.times(e[5], s.n21), d)),
                 Num.plus(e[6], Num.over(seen2, f)));
             return true;
-        }
-
-        /** 1 - p * s11 - q * s22 + p * q * det. */
-        private static int mismatch(int p, int s11, int q, int s22, int whole) {
-            int less = Num.minus(ONE, Num.pairs(p, s11, q, s22));
-            return Num.plus(less, Num.times(Num.times(p, q), whole));
         }
 
         private boolean learnLoad(int[] e) {
@@ -709,11 +714,13 @@ public final class PortBench {
         /** From the OPEN and the SHORT at one side. */
         private boolean learnEnds(int[] e, int side) {
             int base = ERRORS_OF_SIDE * side;
-            if (!tellsEnd(e, side, ONE)) {
+            endStandard(side, ONE);
+            if (!tells(e, standard)) {
                 return false;
             }
             int a = Num.minus(seenAt(side), guess[base]);
-            if (!tellsEnd(e, side, MINUS_ONE)) {
+            endStandard(side, MINUS_ONE);
+            if (!tells(e, standard)) {
                 return false;
             }
             int b = Num.minus(seenAt(side), guess[base]);
@@ -726,9 +733,8 @@ public final class PortBench {
             return true;
         }
 
-        private boolean tellsEnd(int[] e, int side, int end) {
+        private void endStandard(int side, int end) {
             standard.fill(side == 0 ? end : ZERO, ZERO, ZERO, side == 0 ? ZERO : end);
-            return tells(e, standard);
         }
 
         private int seenAt(int side) {
