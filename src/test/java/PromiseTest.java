@@ -1,108 +1,32 @@
-import java.util.function.IntSupplier;
-
 /** One method for each promise of the document: ordinary inputs, edges, wrong inputs. */
-public final class PromiseTest {
-    private static final int BAD = -2, NO = -3, FULL = -4;
-    private static final int TOP = 10006;
-    private static final int[] WRONG_PARTS = {-1, 10007, Integer.MIN_VALUE, Integer.MAX_VALUE};
-
-    private static int wrong = 0;
-    private static int promise = 0;
-
+public final class PromiseTest extends Held {
     public static void main(String[] args) {
-        promise = 1; aNewObject();
-        promise = 2; box();
-        promise = 3; sets();
-        promise = 4; errs();
-        promise = 5; drops();
-        promise = 6; of();
-        promise = 7; error();
-        promise = 8; told(); toldNothing();
-        promise = 9; learns(); learnsNothing();
-        promise = 10; learnt();
-        promise = 11; reads(); readsNothing();
-        promise = 12; chains(); chainsNothing();
-        promise = 13; peels(); peelsNothing();
-        promise = 14; turns();
-        promise = 15; form(); formNone();
-        promise = 16; det();
-        promise = 17; ends();
-        promise = 18; test();
-        promise = 19; like();
-        promise = 20; type();
-        promise = 21; clear();
-        promise = 22; doesOrders(); doesFaults(); doesRefusedOrders(); doesOneState();
-        promise = 23; back();
-        promise = 24; count();
-        promise = 25; digest();
-        System.out.println(wrong == 0 ? "all promises hold" : wrong + " answers are not as due");
-        if (wrong != 0) {
-            System.exit(1);
-        }
-    }
-
-    // ---- how answers are looked at
-
-    private static void due(String what, long got, long want) {
-        if (got != want) {
-            wrong++;
-            System.out.println("promise " + promise + ": " + what + " answered " + got + ", due is " + want);
-        }
-    }
-
-    /** A refused call answers its kind, and the digest becomes other by that kind's count alone. */
-    private static void refused(String what, PortBench x, int kind, IntSupplier call) {
-        int values = 7 + 10 * x.count(0) + 24;
-        long before = x.digest();
-        due(what, call.getAsInt(), kind);
-        long one = 1;
-        for (int behind = values - 1 + kind; behind > 0; behind--) {
-            one *= 31;
-        }
-        due(what + ", what else became other", x.digest() - before - one, 0);
-    }
-
-    private static void kept(String what, PortBench x, IntSupplier getter, long want) {
-        long before = x.digest();
-        due(what, getter.getAsInt(), want);
-        due(what + ", what became other", x.digest() - before, 0);
-    }
-
-    private static int n(int x, int y) {
-        return 10007 * x + y;
-    }
-
-    private static PortBench benchOf(int... parts) {
-        PortBench x = new PortBench();
-        for (int b = 0; b < parts.length / 8; b++) {
-            x.box();
-            for (int k = 0; k < 4; k++) {
-                x.sets(b, k, parts[8 * b + 2 * k], parts[8 * b + 2 * k + 1]);
-            }
-        }
-        return x;
-    }
-
-    private static PortBench fullBench() {
-        PortBench x = new PortBench();
-        for (int b = 0; b < 8; b++) {
-            x.box();
-        }
-        return x;
-    }
-
-    private static void boxIs(String what, PortBench x, int b, int s11, int s12, int s21, int s22) {
-        due(what + " s11", x.of(b, 0), s11);
-        due(what + " s12", x.of(b, 1), s12);
-        due(what + " s21", x.of(b, 2), s21);
-        due(what + " s22", x.of(b, 3), s22);
-    }
-
-    private static void typed(PortBench x, String text) {
-        x.clear();
-        for (int i = 0; i < text.length(); i++) {
-            x.type(text.charAt(i));
-        }
+        about("promise 1"); aNewObject();
+        about("promise 2"); box();
+        about("promise 3"); sets();
+        about("promise 4"); errs();
+        about("promise 5"); drops();
+        about("promise 6"); of();
+        about("promise 7"); error();
+        about("promise 8"); told(); toldNothing();
+        about("promise 9"); learns(); learnsNothing();
+        about("promise 10"); learnt();
+        about("promise 11"); reads(); readsNothing();
+        about("promise 12"); chains(); chainsNothing();
+        about("promise 13"); peels(); peelsNothing();
+        about("promise 14"); turns();
+        about("promise 15"); form(); formNone();
+        about("promise 16"); det();
+        about("promise 17"); ends();
+        about("promise 18"); test();
+        about("promise 19"); like();
+        about("promise 20"); type();
+        about("promise 21"); clear();
+        about("promise 22"); doesOrders(); doesFaults(); doesRefusedOrders(); doesOneState();
+        about("promise 23"); back();
+        about("promise 24"); count();
+        about("promise 25"); digest();
+        end("all promises hold");
     }
 
     // ---- the promises
@@ -191,7 +115,7 @@ public final class PromiseTest {
         refused("drops none", x, BAD, () -> x.drops(0));
         due("back", x.back(), 4);
         boxIs("box 0 again", x, 0, n(3, 0), 0, 0, 0);
-        PortBench y = fullBench();
+        PortBench y = benchWith(8);
         due("drops of a full bench", y.drops(7), 7);
     }
 
@@ -357,7 +281,7 @@ public final class PromiseTest {
         t.learns();
         t.errs(10, 1, 0);
         refused("reads, nothing is told", t, NO, () -> t.reads(0));
-        PortBench f = fullBench();
+        PortBench f = benchWith(8);
         refused("reads, full, nothing learnt", f, NO, () -> f.reads(0));
         f.learns();
         refused("reads, full", f, FULL, () -> f.reads(0));
@@ -377,15 +301,6 @@ public final class PromiseTest {
         due("states", x.count(6), 5);
     }
 
-    private static int inverse(int z) {
-        for (int w = 1; w < 10007; w++) {
-            if (w * z % 10007 == 1) {
-                return w;
-            }
-        }
-        return 0;
-    }
-
     private static void chainsNothing() {
         PortBench x = benchOf(0, 0, 1, 0, 1, 0, 1, 0, 1, 0, 1, 0, 1, 0, 0, 0, 0, 0, 1, 0, 0, 0, 0, 0);
         refused("chains, s22 * s11 = 1", x, NO, () -> x.chains(0, 1));
@@ -396,7 +311,7 @@ public final class PromiseTest {
         refused("chains b 4 of 4", x, BAD, () -> x.chains(0, 4));
         refused("chains a -1", x, BAD, () -> x.chains(-1, 2));
         refused("chains b -1", x, BAD, () -> x.chains(2, -1));
-        PortBench f = fullBench();
+        PortBench f = benchWith(8);
         refused("chains, full", f, FULL, () -> f.chains(0, 7));
         f.sets(0, 2, 0, 0);
         refused("chains, full, s21 is 0", f, NO, () -> f.chains(0, 7));
@@ -433,7 +348,7 @@ public final class PromiseTest {
         // The inverse of a's form is (1 0) (1 1), the form of m (1 -1) (0 1): their product's t3 is 0.
         PortBench z = benchOf(TOP, 0, 1, 0, 1, 0, 0, 0, 0, 0, 1, 0, 1, 0, 1, 0, 0, 0, 1, 0, 1, 0, 0, 0);
         refused("peels, t3 of the product is 0", z, NO, () -> z.peels(0, 1, 2));
-        PortBench f = fullBench();
+        PortBench f = benchWith(8);
         refused("peels, full", f, FULL, () -> f.peels(0, 1, 2));
         f.sets(1, 1, 0, 0);
         refused("peels, full, no inverse", f, NO, () -> f.peels(0, 1, 2));
@@ -450,7 +365,7 @@ public final class PromiseTest {
         due("states", x.count(6), 5);
         refused("turns 3 of 3", x, BAD, () -> x.turns(3));
         refused("turns -1", x, BAD, () -> x.turns(-1));
-        PortBench f = fullBench();
+        PortBench f = benchWith(8);
         refused("turns, full", f, FULL, () -> f.turns(0));
         refused("turns, full, box 8", f, BAD, () -> f.turns(8));
     }
