@@ -352,7 +352,8 @@ public final class CallsEdgeTest extends Held {
             for (int k = 0; k < 4; k++) {
                 int which = f;
                 int at = k;
-                kept("form " + f + ", k " + k, x, () -> x.form(0, which, at), n(Math.floorMod(want[f - 1][k], 10007), 0));
+                kept("form " + f + ", k " + k, x, () -> x.form(0, which, at),
+                    n(Math.floorMod(want[f - 1][k], 10007), 0));
             }
         }
         x.sets(0, 2, 0, 0);
@@ -405,10 +406,14 @@ public final class CallsEdgeTest extends Held {
         boxRanges("test", (x, b) -> x.test(b, 3));
         // A box, then what is due for 0 .. 3: each test holds, and just fails by either part of a number.
         int[][] boxes = {{0, 0, 1, 0, 1, 0, 0, 0, 1, 1, 1, 1}, {0, 0, 1, 1, 1, 0, 0, 0, 0, 1, 1, 0},
-            {0, 0, 2, 0, 1, 0, 0, 0, 0, 1, 1, 0}, {0, 1, 1, 0, 1, 0, 0, 0, 1, 0, 0, 0}, {0, 0, 1, 0, 1, 0, 0, 1, 1, 0, 0, 0},
-            {0, 1, 1, 0, 1, 0, 0, 1, 1, 1, 0, 0}, {1, 0, 1, 0, 1, 0, 0, 0, 1, 0, 0, 0}, {0, 0, 1, 0, 1, 0, 1, 0, 1, 0, 0, 0},
-            {0, 0, TOP, 0, 1, 0, 0, 0, 0, 1, 1, 1}, {0, 0, 0, 1, 0, TOP, 0, 0, 0, 1, 1, 1}, {0, 0, 0, 0, 0, 0, 0, 0, 1, 1, 1, 0},
-            {1, 0, 0, 0, 0, 0, 1, 0, 1, 1, 0, 1}, {1, 0, 0, 0, 0, 0, 2, 0, 1, 0, 0, 0}, {2, 0, 0, 0, 0, 0, 1, 0, 1, 0, 0, 0},
+            {0, 0, 2, 0, 1, 0, 0, 0, 0, 1, 1, 0}, {0, 1, 1, 0, 1, 0, 0, 0, 1, 0, 0, 0},
+            {0, 0, 1, 0, 1, 0, 0, 1, 1, 0, 0, 0},
+            {0, 1, 1, 0, 1, 0, 0, 1, 1, 1, 0, 0}, {1, 0, 1, 0, 1, 0, 0, 0, 1, 0, 0, 0},
+            {0, 0, 1, 0, 1, 0, 1, 0, 1, 0, 0, 0},
+            {0, 0, TOP, 0, 1, 0, 0, 0, 0, 1, 1, 1}, {0, 0, 0, 1, 0, TOP, 0, 0, 0, 1, 1, 1},
+            {0, 0, 0, 0, 0, 0, 0, 0, 1, 1, 1, 0},
+            {1, 0, 0, 0, 0, 0, 1, 0, 1, 1, 0, 1}, {1, 0, 0, 0, 0, 0, 2, 0, 1, 0, 0, 0},
+            {2, 0, 0, 0, 0, 0, 1, 0, 1, 0, 0, 0},
             // Each column's squares are 1 in all, yet r11 * s12 + r21 * s22 is not 0.
             {1, 0, 1, 0, 0, 0, 0, 0, 0, 0, 0, 0}};
         for (int[] c : boxes) {
@@ -493,6 +498,13 @@ public final class CallsEdgeTest extends Held {
         due("back of all", y.back(), 0);
         due("error", y.error(0), 0);
         due("boxes", y.count(0), 0);
+        // What was read of a text is forgotten when it is read anew.
+        PortBench again = new PortBench();
+        typed(again, "b0 0 1 0 1 0 0 0;".repeat(7));
+        for (int i = 0; i < 20; i++) {
+            due("seven BOXES", again.does(), 7);
+            due("back", again.back(), 0);
+        }
         // Six times done with one STATE each: the first of them is lost.
         PortBench z = new PortBench();
         for (int i = 1; i <= 6; i++) {
@@ -622,13 +634,18 @@ public final class CallsEdgeTest extends Held {
         }
         due("of a new object, less what is due", x.digest() - h, 0);
         due("again", x.digest() - h, 0);
+        digestOfAFullBench();
+        digestOfTests();
+    }
+
+    private static void digestOfAFullBench() {
         PortBench y = marked();
         y.learns();
         y.of(8, 0);
         y.form(0, 1, 4);
         y.told(7, 4);
         typed(y, "l;x");
-        h = 2693;
+        long h = 2693;
         for (int v : new int[] {8, 1, 3, 0, 0, 3, 5}) {
             h = 31 * h + v;
         }
@@ -646,5 +663,29 @@ public final class CallsEdgeTest extends Held {
         }
         due("of eight boxes, less what is due", y.digest() - h, 0);
         kept("no getter becomes other by it", y, () -> y.count(6), 5);
+    }
+
+    /** Two throughs: each test holds, the second is like the first; NO and FULL counted, too. */
+    private static void digestOfTests() {
+        PortBench x = benchWith(2);
+        x.form(0, 2, 0);
+        typed(x, " ".repeat(120));
+        x.type(' ');
+        long h = 2693;
+        for (int v : new int[] {2, 0, 0, 1, 1, 120, 2}) {
+            h = 31 * h + v;
+        }
+        for (int b = 0; b < 2; b++) {
+            for (int v : new int[] {0, THROUGH, THROUGH, 0, n(TOP, 0), 1, 1, 1, 1, 0}) {
+                h = 31 * h + v;
+            }
+        }
+        for (int k = 0; k < 12; k++) {
+            h = 31 * h + (k % 3 == 2 ? 10007 : 0);
+        }
+        for (int k = 0; k < 12; k++) {
+            h = 31 * h + NONE;
+        }
+        due("of two throughs, less what is due", x.digest() - h, 0);
     }
 }

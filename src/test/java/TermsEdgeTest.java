@@ -1,9 +1,9 @@
 import java.util.Arrays;
-import java.util.function.IntSupplier;
 
 /**
  * The boundary cases of the section "Terms", a method for each sentence that names one: at the last value that is
- * taken and at the first one that is not. What about() is given are the document's own words.
+ * taken and at the first one that is not. What about() is given are the document's own words. THE TEXT has a test
+ * of its own, TextEdgeTest; STATES and refusals have StatesEdgeTest.
  */
 public final class TermsEdgeTest extends Held {
     public static void main(String[] args) {
@@ -29,27 +29,7 @@ public final class TermsEdgeTest extends Held {
         about("INVERSE, with n not 0"); inverseForPeeling();
         about("FORM 2, with n not 0"); secondForm();
         about("FORM 3: the INVERSE of FORM 2"); thirdForm();
-        about("THE TEXT (120 bytes at most)"); textLength();
-        about("ORDERS, each ended by ;"); orderEnds();
-        about("b and eight numbers, e k x y, l, r b, c a b"); howManyNumbers();
-        about("Numbers have 1 to 5 figures"); figures();
-        about("blanks may stand anywhere but within a number"); blanks();
-        about("THE TEXT is read whole first"); readWholeFirst();
-        about("an ORDER that its call would refuse ends all"); orderEndsAll();
-        about("FAULT: the place of the first byte that can not stand there"); faultPlaces(); strangeBytes();
-        about("the TEXT's length, if it ends too early"); endsTooEarly();
-        about("each call told S leaves one"); callsThatLeaveStates();
-        about("also if nothing becomes other by it"); statesWithoutChange();
-        about("STATES: if it is not refused"); refusedLeavesNoState();
-        about("calls not told S"); callsThatLeaveNoState();
-        about("5 at most, older ones lost"); fiveStates();
-        about("all but THE TEXT and how often refused"); whatGoesBack();
-        about("Refused, the first of: BAD, NO, FULL"); orderOfRefusals();
-        about("changing nothing but how often"); refusedChangesNothing();
-        about("Refused (any call, getters, too)"); everyRefusalCounts();
-        about("By THE TEXT nothing counts"); textCountsNothing();
-        about("at most 512 calls"); lastCalls();
-        end("the edges of the terms hold");
+        end("the edges of NUMBERS, BOXES, what is TOLD and FORMS hold");
     }
 
     // ---- NUMBERS
@@ -128,7 +108,8 @@ public final class TermsEdgeTest extends Held {
 
     /** With s12 = 0, det is s11 * s22. */
     private static void timesGoesRound() {
-        int[][] products = {{0, 1, 0, 1, TOP, 0}, {0, TOP, 0, 1, 1, 0}, {TOP, 0, TOP, 0, 1, 0}, {TOP, TOP, TOP, TOP, 0, 2},
+        int[][] products = {{0, 1, 0, 1, TOP, 0}, {0, TOP, 0, 1, 1, 0}, {TOP, 0, TOP, 0, 1, 0},
+            {TOP, TOP, TOP, TOP, 0, 2},
             {TOP, TOP, TOP, 1, 2, 0}, {TOP, 1, 1, TOP, 0, 2}, {100, 0, 100, 0, 10000, 0}, {2, 0, 5003, 0, TOP, 0},
             {2, 0, 5004, 0, 1, 0}, {0, 100, 101, 0, 0, 93}, {1, 0, TOP, TOP, TOP, TOP}, {0, 0, TOP, TOP, 0, 0},
             {5003, 5004, 5004, 5003, 0, 5004}};
@@ -317,8 +298,10 @@ public final class TermsEdgeTest extends Held {
     private static void nothingToldByD() {
         // e1, e4, s11, s22, s12 * s21; then whether d is 0.
         int[][] cases = {{1, 0, 1, 0, 0, 1}, {1, 0, 2, 0, 0, 0}, {1, 0, TOP, 0, 0, 0}, {TOP, 0, TOP, 0, 0, 1},
-            {0, 1, 0, 1, 0, 1}, {0, 1, 0, 2, 0, 0}, {0, TOP, 0, TOP, 0, 1}, {2, 0, 5004, 0, 0, 1}, {0, 2, 0, 5004, 0, 1},
-            {2, 0, 5003, 0, 0, 0}, {2, 5004, 0, 0, 1, 1}, {2, 5004, 0, 0, 2, 0}, {1, 1, 0, 0, 1, 1}, {1, 1, 3, 0, 10005, 1},
+            {0, 1, 0, 1, 0, 1}, {0, 1, 0, 2, 0, 0}, {0, TOP, 0, TOP, 0, 1}, {2, 0, 5004, 0, 0, 1},
+            {0, 2, 0, 5004, 0, 1},
+            {2, 0, 5003, 0, 0, 0}, {2, 5004, 0, 0, 1, 1}, {2, 5004, 0, 0, 2, 0}, {1, 1, 0, 0, 1, 1},
+            {1, 1, 3, 0, 10005, 1},
             {1, 1, 0, 3, 10005, 1}, {1, 1, 3, 3, 4, 1}, {1, 1, 3, 3, 5, 0}, {0, 0, 1, 1, 1, 0}, {0, 1, 1, 0, 1, 0},
             {1, 0, 0, 1, 1, 0}};
         for (int[] c : cases) {
@@ -336,7 +319,8 @@ public final class TermsEdgeTest extends Held {
     private static void nothingToldByF() {
         // e10, e7, s11, s22, s12 * s21; then whether f is 0.
         int[][] cases = {{1, 0, 1, 0, 0, 1}, {1, 0, 2, 0, 0, 0}, {TOP, 0, TOP, 0, 0, 1}, {0, 1, 0, 1, 0, 1},
-            {0, 1, 0, 2, 0, 0}, {0, TOP, 0, TOP, 0, 1}, {0, TOP, 0, 1, 0, 0}, {2, 0, 5004, 0, 0, 1}, {0, 2, 0, 5004, 0, 1},
+            {0, 1, 0, 2, 0, 0}, {0, TOP, 0, TOP, 0, 1}, {0, TOP, 0, 1, 0, 0}, {2, 0, 5004, 0, 0, 1},
+            {0, 2, 0, 5004, 0, 1},
             {0, 2, 0, 5003, 0, 0}, {2, 5004, 0, 0, 1, 1}, {2, 5004, 0, 0, 2, 0}, {1, 1, 3, 0, 10005, 1},
             {1, 1, 0, 3, 10005, 1}, {1, 1, 3, 3, 4, 1}, {1, 1, 3, 3, 5, 0}, {0, 0, 1, 1, 1, 0}, {0, 1, 1, 0, 1, 0},
             {1, 0, 0, 1, 1, 0}};
@@ -558,8 +542,8 @@ public final class TermsEdgeTest extends Held {
 
     private static void secondForm() {
         // s11, s22, s12 (s21 is 1); then whether n = (1 - s11) * (1 - s22) - s12 is 0.
-        int[][] cases = {{0, 0, 1, 1}, {0, 0, 2, 0}, {0, 0, 0, 0}, {1, 0, 0, 1}, {0, 1, 0, 1}, {1, 1, 0, 1}, {1, 1, 1, 0},
-            {3, 4, 6, 1}, {3, 4, 5, 0}, {TOP, 0, 2, 1}, {TOP, 0, 1, 0}, {2, 0, TOP, 1}};
+        int[][] cases = {{0, 0, 1, 1}, {0, 0, 2, 0}, {0, 0, 0, 0}, {1, 0, 0, 1}, {0, 1, 0, 1}, {1, 1, 0, 1},
+            {1, 1, 1, 0}, {3, 4, 6, 1}, {3, 4, 5, 0}, {TOP, 0, 2, 1}, {TOP, 0, 1, 0}, {2, 0, TOP, 1}};
         for (int[] c : cases) {
             PortBench x = benchOf(c[0], 0, c[2], 0, 1, 0, c[1], 0);
             for (int k = 0; k < 4; k++) {
@@ -597,503 +581,5 @@ public final class TermsEdgeTest extends Held {
                 }
             }
         }
-    }
-
-    // ---- THE TEXT
-
-    private static void textLength() {
-        PortBench x = new PortBench();
-        typed(x, "l;".repeat(59) + " l");
-        due("119 bytes and one", x.count(5), 120);
-        refused("a byte behind 120", x, FULL, () -> x.type(';'));
-        due("the 120 stay as they were", x.does(), -130);
-        typed(x, "l;".repeat(59) + "l");
-        due("byte 120", x.type(';'), 120);
-        due("does 120 bytes", x.does(), 60);
-        refused("a byte behind 120", x, FULL, () -> x.type('l'));
-        due("does 120 bytes again", x.does(), 60);
-    }
-
-    private static void orderEnds() {
-        String[] orders = {"b0 0 1 0 1 0 0 0", "e0 1 1", "l", "r0", "c0 0"};
-        for (String order : orders) {
-            PortBench x = benchWith(1);
-            x.learns();
-            due("without ;", done(x, order), -10 - order.length());
-            due("with ;", done(x, order + ";"), 1);
-            due("with ; ;", done(x, order + ";;"), -10 - order.length() - 1);
-            due("two of them, the second without ;", done(x, order + ";" + order), -11 - 2 * order.length());
-            due("two of them", done(x, order + ";" + order + ";"), 2);
-        }
-        PortBench y = new PortBench();
-        due("; alone", done(y, ";"), -10);
-        due(": for ;", done(y, "l:"), -11);
-    }
-
-    private static void howManyNumbers() {
-        char[] letters = {'b', 'e', 'l', 'r', 'c'};
-        int[] wanted = {8, 3, 0, 1, 2};
-        for (int i = 0; i < letters.length; i++) {
-            for (int numbers = 0; numbers <= 9; numbers++) {
-                PortBench x = benchWith(1);
-                x.learns();
-                String order = letters[i] + " 0".repeat(numbers);
-                // One too few: the ; can not stand there. One too many: its first figure can not.
-                int fault = numbers < wanted[i] ? order.length() : 2 * wanted[i] + 2;
-                due(order + ";", done(x, order + ";"), numbers == wanted[i] ? 1 : -10 - fault);
-            }
-        }
-        for (int c = 0; c < 128; c++) {
-            if ("belrc ".indexOf(c) < 0) {
-                due("byte " + c + " as an ORDER", done(new PortBench(), (char) c + ";"), -10);
-            }
-        }
-    }
-
-    private static void figures() {
-        PortBench x = benchWith(1);
-        x.learns();
-        due("no figure", done(x, "r;"), -11);
-        due("one figure", done(x, "r0;"), 1);
-        due("five figures", done(x, "r00001;"), 1);
-        due("a sixth figure", done(x, "r000001;"), -16);
-        due("a sixth figure, text ended", done(x, "r000001"), -16);
-        due("a seventh figure", done(x, "r0000001;"), -16);
-        due("five figures, text ended", done(x, "r00001"), -16);
-        due("boxes", x.count(0), 3);
-        due("five figures each", done(x, "e00011 10006 00009;"), 1);
-        due("error 11", x.error(11), n(TOP, 9));
-        due("a sixth figure of the second", done(x, "e00011 010006 9;"), -22);
-        due("a sixth figure of the last", done(x, "e00011 10006 000009;"), -28);
-        due("a sixth figure of c", done(x, "c0 000000;"), -18);
-        due("a sixth figure of b", done(x, "b000000 0 0 0 0 0 0 0;"), -16);
-        due("99999 has five", done(x, "r99999;"), -1000);
-        due("100000 has six", done(x, "r100000;"), -16);
-        for (int c = 0; c < 128; c++) {
-            boolean figure = c >= '0' && c <= '9';
-            if (c != ' ' && c != ';' && !figure) {
-                due("byte " + c + " for a figure", done(new PortBench(), "r" + (char) c + ";"), -11);
-                due("byte " + c + " behind a figure", done(new PortBench(), "r0" + (char) c), -12);
-            }
-        }
-        for (int digit = 0; digit < 10; digit++) {
-            PortBench y = new PortBench();
-            due("figure " + digit, done(y, "e0 " + digit + " 1" + digit + ";"), 1);
-            due("figure " + digit, y.error(0), n(digit, 10 + digit));
-        }
-    }
-
-    private static void blanks() {
-        PortBench x = benchWith(1);
-        x.learns();
-        due("none where none is needed", done(x, "c0 0;l;r0;e1 2 3;"), 4);
-        due("everywhere", done(x, "  c  0  0  ;  l  ;  e  1  2  3  ;  "), 3);
-        due("ahead of all", done(x, " l;"), 1);
-        due("behind all", done(x, "l; "), 1);
-        due("ahead of ;", done(x, "l ;"), 1);
-        due("within a number they make two of it", done(x, "r0 0;"), -13);
-        due("none between two numbers makes one of them", done(x, "c00;"), -13);
-        due("within what would be six figures", done(x, "c000 001;"), 1);
-        due("a blank is 32 alone", done(x, "l" + (char) 9 + ";"), -11);
-        due("a blank is 32 alone", done(x, "l" + (char) 31 + ";"), -11);
-        due("a blank is 32 alone", done(x, "l" + (char) 33 + ";"), -11);
-        due("118 blanks", done(new PortBench(), " ".repeat(118) + "l;"), 1);
-        due("118 blanks", done(new PortBench(), "l" + " ".repeat(118) + ";"), 1);
-        due("118 blanks", done(new PortBench(), "l;" + " ".repeat(118)), 1);
-    }
-
-    private static void readWholeFirst() {
-        PortBench x = new PortBench();
-        x.errs(0, 1, 1);
-        typed(x, "b0 0 1 0 1 0 0 0;e0 2 2;l;r0;c0 0;x");
-        kept("a FAULT behind good ORDERS", x, x::does, -10 - 34);
-        typed(x, "r0;l;x");
-        kept("a FAULT behind an ORDER that would be refused", x, x::does, -15);
-        typed(x, "e0 2 2;l");
-        kept("a text that ends too early behind a good ORDER", x, x::does, -18);
-        due("error", x.error(0), n(1, 1));
-        due("back", x.back(), 0);
-    }
-
-    private static void orderEndsAll() {
-        String good = "e0 2 2;";
-        String[] bad = {"r1;", "c0 1;", "c1 0;", "e12 0 0;", "e0 10007 0;", "e0 0 10007;", "b0 0 0 0 0 0 0 10007;",
-            "e2 0 0;l;", "c0 0;c0 0;c0 0;c0 0;c0 0;c0 0;c0 0;c0 0;"};
-        int[] at = {0, 0, 0, 0, 0, 0, 0, 1, 7};
-        for (int i = 0; i < bad.length; i++) {
-            PortBench x = benchWith(1);
-            typed(x, bad[i]);
-            kept(bad[i], x, x::does, -1000 - at[i]);
-            typed(x, good + bad[i] + good);
-            kept(good + bad[i] + good, x, x::does, -1001 - at[i]);
-            due("error", x.error(0), 0);
-            due("back", x.back(), 0);
-            due("boxes", x.count(0), 0);
-        }
-        // ORDERS see what those ahead of them did.
-        PortBench y = new PortBench();
-        due("r0 ahead of its box", done(y, "l;r0;b0 0 1 0 1 0 0 0;"), -1001);
-        due("r0 behind its box", done(y, "l;b0 0 1 0 1 0 0 0;r0;"), 3);
-        PortBench z = benchWith(1);
-        due("r0 ahead of l", done(z, "r0;l;"), -1000);
-        due("r0 behind l", done(z, "l;r0;"), 2);
-    }
-
-    private static void faultPlaces() {
-        PortBench x = new PortBench();
-        due("at the first byte", done(x, "x"), -10);
-        due("at the second byte", done(x, "lx"), -11);
-        due("the first of two", done(x, "l;xx"), -12);
-        due("at the last byte", done(x, "l;".repeat(59) + "lx"), -129);
-        due("at the last byte", done(x, " ".repeat(119) + "x"), -129);
-        due("at the last byte but one", done(x, "l;".repeat(59) + "x;"), -128);
-        PortBench y = benchWith(1);
-        typed(y, "l;x");
-        kept("nothing is done", y, y::does, -12);
-        due("nothing is learnt", y.count(1), 0);
-    }
-
-    private static void strangeBytes() {
-        for (int c : new int[] {0, 1, 10, 31, 33, 47, 58, 60, 'B', 'L', 'a', 'd', 'f', 'k', 'm', 'q', 's', 127}) {
-            due("byte " + c + " ahead of all", done(new PortBench(), (char) c + "l;"), -10);
-            due("byte " + c + " behind all", done(new PortBench(), "l;" + (char) c), -12);
-            due("byte " + c + " in a number", done(new PortBench(), "e0 0" + (char) c + "0 0;"), -14);
-        }
-    }
-
-    private static void endsTooEarly() {
-        String whole = "b 1 2 3 4 5 6 7 88 ;e1 2 3;c0 0;l;r0;";
-        for (int length = 0; length < whole.length(); length++) {
-            if (length > 0 && whole.charAt(length - 1) == ';') {
-                continue;
-            }
-            PortBench x = new PortBench();
-            typed(x, whole.substring(0, length));
-            kept("the first " + length + " bytes", x, x::does, -10 - length);
-        }
-        due("all bytes", done(new PortBench(), whole), 5);
-        due("empty", new PortBench().does(), -10);
-        due("one blank", done(new PortBench(), " "), -11);
-        due("119 blanks", done(new PortBench(), " ".repeat(119)), -129);
-        due("120 blanks", done(new PortBench(), " ".repeat(120)), -130);
-        due("120 bytes, ended too early", done(new PortBench(), "l;".repeat(59) + " l"), -130);
-        PortBench y = new PortBench();
-        done(y, "l;");
-        y.clear();
-        due("empty again", y.does(), -10);
-    }
-
-    // ---- STATES
-
-    private static void callsThatLeaveStates() {
-        for (int states = 0; states < 7; states++) {
-            PortBench x = benchOf(3, 1, 2, 0, 5, 0, 1, 0);
-            x.learns();
-            emptyPast(x);
-            for (int i = 0; i < states; i++) {
-                x.errs(3, 9, 9);
-            }
-            leaves("box", x, x::box, 1);
-            leaves("sets", x, () -> x.sets(0, 0, 7, 7), n(3, 1));
-            leaves("errs", x, () -> x.errs(0, 7, 7), 0);
-            leaves("drops", x, () -> x.drops(0), 0);
-            leaves("learns", x, x::learns, 12);
-            leaves("reads", x, () -> x.reads(0), 1);
-            leaves("chains", x, () -> x.chains(0, 0), 1);
-            leaves("peels", x, () -> x.peels(0, 0, 0), 1);
-            leaves("turns", x, () -> x.turns(0), 1);
-            typed(x, "e0 7 7;l;r0;b1 1 1 1 1 1 1 1;c0 1;");
-            leaves("does", x, x::does, 5);
-        }
-    }
-
-    private static void emptyPast(PortBench x) {
-        // Nothing can be taken from the past but by going back, so it is filled with what is, then gone through.
-        for (int i = 0; i < 5; i++) {
-            x.errs(3, 0, 0);
-        }
-        for (int i = 4; i >= 0; i--) {
-            due("back", x.back(), i);
-        }
-    }
-
-    private static void statesWithoutChange() {
-        PortBench x = benchOf(3, 1, 2, 0, 5, 0, 1, 0);
-        x.learns();
-        emptyPast(x);
-        leaves("sets to what it is", x, () -> x.sets(0, 0, 3, 1), n(3, 1));
-        leaves("errs to what it is", x, () -> x.errs(2, 1, 0), THROUGH);
-        leaves("learns what is learnt", x, x::learns, 12);
-        typed(x, "e2 1 0;");
-        leaves("does what is", x, x::does, 1);
-        due("no state yet", x.count(6), 0);
-        x.sets(0, 0, 3, 1);
-        x.errs(2, 1, 0);
-        x.learns();
-        x.does();
-        due("four states", x.count(6), 4);
-    }
-
-    private static void refusedLeavesNoState() {
-        // With 5 STATES a sixth would not show in their number: here are 3.
-        PortBench x = new PortBench();
-        due("does", done(x, "b0 0 1 0 1 0 0 0;".repeat(7)), 7);
-        x.errs(0, 0, 0);
-        x.sets(0, 2, 0, 0);
-        due("states", x.count(6), 3);
-        refused("sets", x, BAD, () -> x.sets(7, 0, 0, 0));
-        refused("errs", x, BAD, () -> x.errs(12, 0, 0));
-        refused("drops", x, BAD, () -> x.drops(7));
-        refused("reads", x, NO, () -> x.reads(1));
-        refused("chains", x, NO, () -> x.chains(0, 1));
-        refused("peels", x, NO, () -> x.peels(0, 1, 1));
-        typed(x, "r9;");
-        kept("does, an ORDER refused", x, x::does, -1000);
-        typed(x, "r");
-        kept("does, a FAULT", x, x::does, -11);
-        due("box", x.box(), 7);
-        due("states", x.count(6), 4);
-        refused("box", x, FULL, x::box);
-        refused("turns", x, FULL, () -> x.turns(1));
-        refused("chains", x, FULL, () -> x.chains(1, 1));
-        refused("peels", x, FULL, () -> x.peels(1, 1, 1));
-        due("back", x.back(), 3);
-        due("errs", x.errs(2, 0, 0), THROUGH);
-        refused("learns", x, NO, x::learns);
-        due("back", x.back(), 3);
-        due("the oldest are there yet", x.back(), 2);
-        due("the oldest are there yet", x.back(), 1);
-        due("the oldest are there yet", x.back(), 0);
-        refused("back", x, NO, x::back);
-    }
-
-    private static void callsThatLeaveNoState() {
-        PortBench x = benchWith(1);
-        x.learns();
-        IntSupplier[] getters = {() -> x.of(0, 1), () -> x.error(2), () -> x.told(0, 1), () -> x.learnt(2),
-            () -> x.form(0, 1, 3), () -> x.ends(0, 0, 1, 0)};
-        for (int i = 0; i < getters.length; i++) {
-            kept("getter " + i, x, getters[i], THROUGH);
-        }
-        kept("det", x, () -> x.det(0), n(TOP, 0));
-        kept("test", x, () -> x.test(0, 0), 1);
-        kept("like", x, () -> x.like(0), 0);
-        kept("count", x, () -> x.count(6), 2);
-        due("type", x.type('l'), 1);
-        due("states behind type", x.count(6), 2);
-        due("clear", x.clear(), 1);
-        due("states behind clear", x.count(6), 2);
-        due("back", x.back(), 1);
-        due("states behind back", x.count(6), 1);
-    }
-
-    private static void fiveStates() {
-        for (int calls = 1; calls <= 12; calls++) {
-            PortBench x = new PortBench();
-            for (int i = 1; i <= calls; i++) {
-                x.errs(0, i, i);
-                due("states after " + i, x.count(6), Math.min(i, 5));
-            }
-            int states = Math.min(calls, 5);
-            for (int i = 1; i <= states; i++) {
-                due("back " + i + " of " + calls, x.back(), states - i);
-                due("error", x.error(0), n(calls - i, calls - i));
-            }
-            refused("back beyond the oldest", x, NO, x::back);
-            due("error", x.error(0), n(calls - states, calls - states));
-        }
-        // Gone back and on again, the STATES between are those of the new way.
-        PortBench y = new PortBench();
-        for (int i = 1; i <= 7; i++) {
-            y.errs(0, i, 0);
-        }
-        due("back", y.back(), 4);
-        due("back", y.back(), 3);
-        y.errs(0, 20, 0);
-        y.errs(0, 21, 0);
-        due("states", y.count(6), 5);
-        y.errs(0, 22, 0);
-        int[] was = {21, 20, 5, 4, 3};
-        for (int i = 0; i < 5; i++) {
-            due("back", y.back(), 4 - i);
-            due("error", y.error(0), n(was[i], 0));
-        }
-        refused("back", y, NO, y::back);
-    }
-
-    private static void whatGoesBack() {
-        PortBench x = benchOf(1, 2, 3, 4, 5, 6, 7, 8);
-        x.learns();
-        String orders = "e0 9 9;e11 9 9;l;b1 1 1 1 1 1 1 1;";
-        due("does", done(x, orders), 4);
-        x.of(8, 8);
-        x.reads(8);
-        x.form(1, 3, 0);
-        x.type(128);
-        x.errs(1, 1, 0);
-        x.learns();
-        due("back", x.back(), 4);
-        due("error 1", x.error(1), 0);
-        due("learnt 11", x.learnt(11), n(9, 9));
-        due("back", x.back(), 3);
-        due("boxes", x.count(0), 1);
-        boxIs("box 0", x, 0, n(1, 2), n(3, 4), n(5, 6), n(7, 8));
-        due("error 0", x.error(0), 0);
-        due("error 11", x.error(11), THROUGH);
-        due("learnt 11", x.learnt(11), THROUGH);
-        due("back", x.back(), 2);
-        due("learnt 11, nothing is learnt", x.learnt(11), NONE);
-        due("whether something is learnt", x.count(1), 0);
-        due("back", x.back(), 1);
-        boxIs("box 0", x, 0, n(1, 2), n(3, 4), n(5, 6), 0);
-        refusals("they do not go back", x, 3, 1, 0);
-        due("bytes do not go back", x.count(5), orders.length());
-        due("the text is as it was", x.does(), 4);
-        PortBench y = benchWith(1);
-        typed(y, "l;");
-        y.back();
-        due("typed behind the state, kept", y.does(), 1);
-        y.clear();
-        y.back();
-        due("cleared behind the state, empty", y.count(5), 0);
-    }
-
-    // ---- refusals
-
-    private static void orderOfRefusals() {
-        PortBench x = benchWith(8);
-        // Box 0 has no FORM, box 1 a FORM without INVERSE; of both nothing is TOLD; nothing is LEARNT.
-        x.sets(0, 2, 0, 0);
-        x.sets(1, 1, 0, 0);
-        x.sets(0, 0, 1, 0);
-        x.sets(1, 0, 1, 0);
-        x.errs(1, 1, 0);
-        refused("told: BAD ahead of NO", x, BAD, () -> x.told(0, 4));
-        refused("told: NO", x, NO, () -> x.told(0, 3));
-        refused("form: BAD ahead of NO", x, BAD, () -> x.form(0, 1, 4));
-        refused("form: NO", x, NO, () -> x.form(0, 1, 3));
-        refused("ends: BAD ahead of NO", x, BAD, () -> x.ends(0, 2, 1, 0));
-        refused("ends: NO", x, NO, () -> x.ends(0, 1, 1, 0));
-        refused("reads: BAD ahead of NO and FULL", x, BAD, () -> x.reads(8));
-        refused("reads: NO ahead of FULL, nothing is LEARNT", x, NO, () -> x.reads(2));
-        refused("chains: BAD ahead of NO and FULL", x, BAD, () -> x.chains(0, 8));
-        refused("chains: NO ahead of FULL", x, NO, () -> x.chains(0, 7));
-        refused("chains: FULL", x, FULL, () -> x.chains(6, 7));
-        refused("peels: BAD ahead of NO and FULL", x, BAD, () -> x.peels(0, 1, 8));
-        refused("peels: NO ahead of FULL, no FORM", x, NO, () -> x.peels(0, 6, 7));
-        refused("peels: NO ahead of FULL, no INVERSE", x, NO, () -> x.peels(5, 1, 7));
-        refused("peels: FULL", x, FULL, () -> x.peels(5, 6, 7));
-        refused("turns: BAD ahead of FULL", x, BAD, () -> x.turns(8));
-        refused("turns: FULL", x, FULL, () -> x.turns(7));
-        x.errs(1, 0, 0);
-        x.learns();
-        x.errs(1, 1, 0);
-        refused("reads: NO ahead of FULL, nothing is TOLD", x, NO, () -> x.reads(0));
-        refused("reads: FULL", x, FULL, () -> x.reads(2));
-        typed(x, "l".repeat(120));
-        refused("type: BAD ahead of FULL", x, BAD, () -> x.type(128));
-        refused("type: FULL", x, FULL, () -> x.type(127));
-    }
-
-    /** Twins: one is refused again and again, the other is not; then both go back, and do the same text. */
-    private static void refusedChangesNothing() {
-        PortBench x = twin();
-        PortBench y = twin();
-        IntSupplier[] calls = {x::box, () -> x.sets(8, 0, 5, 5), () -> x.sets(0, 4, 5, 5), () -> x.sets(0, 0, 5, 10007),
-            () -> x.sets(0, 0, 10007, 5), () -> x.errs(12, 5, 5), () -> x.errs(0, 5, 10007), () -> x.errs(0, 10007, 5),
-            () -> x.drops(8), () -> x.drops(-1), () -> x.of(8, 0), () -> x.error(12), () -> x.told(0, 4), () -> x.told(1, 0),
-            x::learns, () -> x.learnt(12), () -> x.reads(8), () -> x.reads(1), () -> x.reads(7), () -> x.chains(8, 0),
-            () -> x.chains(0, 1), () -> x.chains(6, 7), () -> x.peels(0, 0, 8), () -> x.peels(0, 7, 1),
-            () -> x.peels(5, 6, 7), () -> x.turns(8), () -> x.turns(7), () -> x.form(0, 4, 0), () -> x.form(1, 1, 0),
-            () -> x.det(8), () -> x.ends(0, 0, 10007, 0), () -> x.ends(1, 1, 1, 0), () -> x.test(0, 4), () -> x.like(8),
-            () -> x.type(128), () -> x.type('l'), () -> x.count(7)};
-        int[] kinds = {FULL, BAD, BAD, BAD, BAD, BAD, BAD, BAD, BAD, BAD, BAD, BAD, BAD, NO, NO, BAD, BAD, NO, FULL, BAD, NO,
-            FULL, BAD, NO, FULL, BAD, FULL, BAD, NO, BAD, BAD, NO, BAD, BAD, BAD, FULL, BAD};
-        int[] often = new int[3];
-        for (int i = 0; i < calls.length; i++) {
-            due("call " + i, calls[i].getAsInt(), kinds[i]);
-            often[BAD - kinds[i]]++;
-        }
-        refusals("all of them", x, often[0], often[1], often[2]);
-        due("the twin's content", contentOf(x) - contentOf(y), 0);
-        for (int i = 4; i >= 0; i--) {
-            due("back", x.back(), i);
-            due("the twin's back", y.back(), i);
-            due("the twin's content, gone back", contentOf(x) - contentOf(y), 0);
-        }
-        due("back", x.back(), NO);
-        due("the twin's boxes", x.count(0), y.count(0));
-        due("does", x.does(), 35);
-        due("the twin's does", y.does(), 35);
-    }
-
-    /** A full bench and a full text; box 1 has no FORM, and nothing is TOLD of it; the errors can not be learnt anew. */
-    private static PortBench twin() {
-        PortBench x = benchWith(8);
-        x.learns();
-        x.sets(1, 0, 1, 0);
-        x.sets(0, 0, 3, 3);
-        x.sets(1, 2, 0, 0);
-        x.errs(1, 1, 0);
-        x.errs(7, 4, 4);
-        typed(x, "e0 1 1;".repeat(10) + "l;".repeat(25));
-        return x;
-    }
-
-    private static void everyRefusalCounts() {
-        PortBench x = new PortBench();
-        IntSupplier[] bad = {() -> x.of(0, 0), () -> x.error(12), () -> x.told(0, 0), () -> x.learnt(12), () -> x.form(0, 1, 0),
-            () -> x.det(0), () -> x.ends(0, 0, 0, 0), () -> x.test(0, 0), () -> x.like(0), () -> x.count(7),
-            () -> x.sets(0, 0, 0, 0), () -> x.errs(12, 0, 0), () -> x.drops(0), () -> x.reads(0), () -> x.chains(0, 0),
-            () -> x.peels(0, 0, 0), () -> x.turns(0), () -> x.type(128)};
-        for (int i = 0; i < bad.length; i++) {
-            due("call " + i, bad[i].getAsInt(), BAD);
-            refusals("call " + i, x, i + 1, 0, 0);
-        }
-        PortBench y = benchOf(0, 0, 0, 0, 0, 0, 1, 0);
-        y.errs(4, 1, 0);
-        IntSupplier[] no = {() -> y.told(0, 0), y::learns, () -> y.reads(0), () -> y.chains(0, 0), () -> y.peels(0, 0, 0),
-            () -> y.form(0, 1, 0), () -> y.form(0, 2, 0), () -> y.form(0, 3, 0), () -> y.ends(0, 0, 1, 0)};
-        for (int i = 0; i < no.length; i++) {
-            due("call " + i, no[i].getAsInt(), NO);
-            refusals("call " + i, y, 0, i + 1, 0);
-        }
-        PortBench z = benchWith(8);
-        z.learns();
-        typed(z, "l".repeat(120));
-        IntSupplier[] full = {z::box, () -> z.reads(0), () -> z.chains(0, 0), () -> z.peels(0, 0, 0), () -> z.turns(0),
-            () -> z.type(0)};
-        for (int i = 0; i < full.length; i++) {
-            due("call " + i, full[i].getAsInt(), FULL);
-            refusals("call " + i, z, 0, 0, i + 1);
-        }
-    }
-
-    private static void textCountsNothing() {
-        PortBench x = benchWith(8);
-        String[] texts = {"e12 0 0;", "r8;", "r0;", "e2 0 0;l;", "c0 0;", "b0 0 0 0 0 0 0 0;", "b0 0 0 0 0 0 0 10007;", "x", "",
-            "r"};
-        int[] answers = {-1000, -1000, -1000, -1001, -1000, -1000, -1000, -10, -10, -11};
-        for (int i = 0; i < texts.length; i++) {
-            due(texts[i], done(x, texts[i]), answers[i]);
-            refusals(texts[i], x, 0, 0, 0);
-        }
-        due("done", done(x, "l;"), 1);
-        refusals("done", x, 0, 0, 0);
-    }
-
-    // ---- how long an object is used
-
-    private static void lastCalls() {
-        PortBench x = new PortBench();
-        for (int i = 1; i <= 511; i++) {
-            due("refused call " + i, x.of(i, 0), BAD);
-        }
-        due("call 512", x.count(2), 511);
-        PortBench y = new PortBench();
-        for (int i = 1; i <= 511; i++) {
-            due("errs, call " + i, y.errs(11, i, i), i == 1 ? THROUGH : n(i - 1, i - 1));
-        }
-        due("call 512", y.back(), 4);
     }
 }
